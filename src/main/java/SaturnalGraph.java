@@ -822,12 +822,22 @@ public final class SaturnalGraph {
 
         /** The number, the variable, or the class of the first part. */
         int firstKey(int node) {
-            int own = pick(first, node);
-            return pick(kind, node) >= CONTRARY ? pick(group, own) : own;
+            if (node < 0 || node >= count) {
+                return NONE;
+            }
+            int own = first[node];
+            if (kind[node] < CONTRARY) {
+                return own;
+            }
+            return own >= 0 && own < count ? group[own] : NONE;
         }
 
         int secondKey(int node) {
-            return pick(kind, node) >= PLUS ? pick(group, pick(second, node)) : NONE;
+            if (node < 0 || node >= count || kind[node] < PLUS) {
+                return NONE;
+            }
+            int own = second[node];
+            return own >= 0 && own < count ? group[own] : NONE;
         }
 
         /** The lowest node below 'end' that is alike to one of this kind and these keys. */
@@ -927,20 +937,23 @@ public final class SaturnalGraph {
         private int meeting(int one, int other) {
             int oneDepth = 0;
             int otherDepth = 0;
-            for (int i = one; oneDepth <= NODES && i != NONE; i = pick(parent, i)) {
+            for (int i = one; oneDepth <= NODES && i >= 0 && i < count; i = parent[i]) {
                 oneDepth++;
             }
-            for (int i = other; otherDepth <= NODES && i != NONE; i = pick(parent, i)) {
+            for (int i = other; otherDepth <= NODES && i >= 0 && i < count; i = parent[i]) {
                 otherDepth++;
             }
             int a = one;
             int b = other;
             for (int step = 0; step <= 2 * NODES && a != b; step++) {
+                if (a < 0 || a >= count || b < 0 || b >= count) {
+                    return NONE;
+                }
                 if (oneDepth >= otherDepth) {
-                    a = pick(parent, a);
+                    a = parent[a];
                     oneDepth--;
                 } else {
-                    b = pick(parent, b);
+                    b = parent[b];
                     otherDepth--;
                 }
             }
@@ -1108,10 +1121,14 @@ public final class SaturnalGraph {
             for (int i = graph.count - 1; i >= 0; i--) {
                 int group = graph.classAt(i);
                 next[i] = pick(heads, group);
-                if (group >= 0 && group < NODES) {
+                if (isClass(group)) {
                     heads[group] = i;
                 }
             }
+        }
+
+        private boolean isClass(int group) {
+            return group >= 0 && group < NODES;
         }
 
         boolean isKnown(int group) {
@@ -1135,6 +1152,9 @@ public final class SaturnalGraph {
         }
 
         private boolean findConstant(int group) {
+            if (!isClass(group)) {
+                return false;
+            }
             int node = group;
             for (int i = 0; i < NODES && node != NONE; i++) {
                 if (isReckoned(node)) {
@@ -1172,7 +1192,7 @@ public final class SaturnalGraph {
             }
             int found = 0;
             for (int i = 0; i < graph.count; i++) {
-                int group = graph.group[i];
+                int group = graph.classAt(i);
                 // The constant is the number of one of the nodes, so that an unlike one is enough.
                 if (isKnown(group) && !marked[group] && isReckoned(i) && reckoned(i) != constants[group]) {
                     marked[group] = true;
@@ -1188,10 +1208,11 @@ public final class SaturnalGraph {
             for (int turn = 0; turn <= VARIABLES * NODES && again; turn++) {
                 again = false;
                 for (int i = 0; i < graph.count; i++) {
-                    int group = graph.group[i];
-                    int less = frees[group] & freeOfNode(i);
-                    again = again || less != frees[group];
-                    frees[group] = less;
+                    int group = graph.classAt(i);
+                    if (isClass(group) && (frees[group] & ~freeOfNode(i)) != 0) {
+                        frees[group] &= freeOfNode(i);
+                        again = true;
+                    }
                 }
             }
         }
@@ -1215,16 +1236,19 @@ public final class SaturnalGraph {
             for (int turn = 0; turn <= NODES && again; turn++) {
                 again = false;
                 for (int i = 0; i < graph.count; i++) {
-                    int group = graph.group[i];
+                    int group = graph.classAt(i);
                     int cost = costOfNode(i, cheapest);
-                    again = again || cost < cheapest[group];
-                    cheapest[group] = Math.min(cost, cheapest[group]);
+                    if (isClass(group) && cost < cheapest[group]) {
+                        cheapest[group] = cost;
+                        again = true;
+                    }
                 }
             }
             for (int i = graph.count - 1; i >= 0; i--) {
+                int group = graph.classAt(i);
                 int cost = costOfNode(i, cheapest);
-                if (cost < TOP_COST && cost == pick(cheapest, graph.classAt(i))) {
-                    bests[graph.group[i]] = i;
+                if (isClass(group) && cost < TOP_COST && cost == cheapest[group]) {
+                    bests[group] = i;
                 }
             }
         }
@@ -1274,27 +1298,32 @@ public final class SaturnalGraph {
         }
 
         private void mark(int group) {
-            if (group >= 0 && group < NODES) {
+            if (isClass(group)) {
                 marked[group] = true;
             }
         }
 
         int evaluateBest(int target, int zero, int one) {
             int found = orderBests();
-            for (int i = 0; i < found; i++) {
+            for (int i = 0; i < found && i < NODES; i++) {
                 int group = order[i];
-                int node = bests[group];
-                int kind = pick(graph.kind, node);
-                int first = graph.firstKey(node);
-                if (kind == NUMBER) {
-                    worth[group] = first;
-                } else if (kind == VARIABLE) {
-                    worth[group] = pickSetting(first, zero, one);
-                } else {
-                    worth[group] = reckon(kind, pick(worth, first), pick(worth, graph.secondKey(node)));
+                if (isClass(group)) {
+                    worth[group] = worthOfNode(bests[group], zero, one);
                 }
             }
             return pick(worth, target);
+        }
+
+        private int worthOfNode(int node, int zero, int one) {
+            int kind = pick(graph.kind, node);
+            int first = graph.firstKey(node);
+            if (kind == NUMBER) {
+                return first;
+            }
+            if (kind == VARIABLE) {
+                return pickSetting(first, zero, one);
+            }
+            return reckon(kind, pick(worth, first), pick(worth, graph.secondKey(node)));
         }
 
         /** The cost of the best term of a class, each class in it paid once. */
@@ -1305,12 +1334,12 @@ public final class SaturnalGraph {
             }
             mark(target);
             int paid = 0;
-            for (int i = found - 1; i >= 0; i--) {
+            for (int i = Math.min(found, NODES) - 1; i >= 0; i--) {
                 int group = order[i];
                 if (!isMarked(group)) {
                     continue;
                 }
-                int node = bests[group];
+                int node = pick(bests, group);
                 int parts = partsOf(pick(graph.kind, node));
                 paid += ownCost(node);
                 mark(parts > 0 ? graph.firstKey(node) : NONE);
@@ -1321,8 +1350,11 @@ public final class SaturnalGraph {
 
         boolean areBestTermsPriced() {
             int found = orderBests();
-            for (int i = 0; i < found; i++) {
+            for (int i = 0; i < found && i < NODES; i++) {
                 int group = order[i];
+                if (!isClass(group)) {
+                    return false;
+                }
                 worth[group] = costOfNode(bests[group], worth);
                 if (worth[group] != cheapest[group]) {
                     return false;
@@ -1373,10 +1405,14 @@ public final class SaturnalGraph {
 
         /** The lowest node of this operator in the class. */
         int firstOf(int kind, int ofGroup) {
-            return ofGroup >= 0 && ofGroup < count ? pick(leading, kind * NODES + ofGroup) : NONE;
+            int index = kind * NODES + ofGroup;
+            return ofGroup >= 0 && ofGroup < count && index >= 0 && index < leading.length ? leading[index] : NONE;
         }
 
         boolean fits(int ofGroup, char condition) {
+            if (ofGroup < 0 || ofGroup >= NODES) {
+                return false;
+            }
             return condition == '-' || known[ofGroup] && (condition == 'n' || constants[ofGroup] != 0);
         }
     }
@@ -1424,6 +1460,9 @@ public final class SaturnalGraph {
         }
 
         private void takeOperator(int at, Terms terms) {
+            if (at < 0 || at >= LARGEST_SIDE || operators >= LARGEST_SIDE) {
+                return;
+            }
             int term = termAt[at];
             int first = pick(terms.first, term);
             rowAt[at] = operators;
@@ -1444,6 +1483,9 @@ public final class SaturnalGraph {
         }
 
         private void takeLeaf(int at, Terms terms, Graph graph, Frozen frozen) {
+            if (at < 0 || at >= LARGEST_SIDE) {
+                return;
+            }
             int own = pick(terms.first, termAt[at]);
             if (kindAt[at] == HOLE) {
                 firstAt[at] = own;
@@ -1510,15 +1552,15 @@ public final class SaturnalGraph {
         }
 
         private void fillRow(int row) {
-            int at = pattern.operatorAt[row];
-            int words = pattern.words;
+            int at = pick(pattern.operatorAt, row);
+            int words = Math.min(MOST_WORDS, pattern.words);
             for (int group = 0; group < frozen.count; group++) {
                 int index = ((row - 1) * NODES + group) * words;
                 if (index < 0 || index + words > table.length) {
                     return;
                 }
                 Arrays.fill(table, index, index + words, 0L);
-                int node = frozen.firstOf(pattern.kindAt[at], group);
+                int node = frozen.firstOf(pick(pattern.kindAt, at), group);
                 for (int i = 0; i < NODES && node != NONE; i++) {
                     if (narrow(0, 1, at, node)) {
                         for (int word = 0; word < words; word++) {
@@ -1532,11 +1574,14 @@ public final class SaturnalGraph {
 
         /** Writes into a row what is left open of the one above if a node is chosen. */
         private boolean narrow(int above, int row, int at, int node) {
-            int first = pattern.firstAt[at];
-            int second = pattern.secondAt[at];
+            if (above < 0 || above > LARGEST_SIDE || row < 0 || row > LARGEST_SIDE) {
+                return false;
+            }
+            int first = pick(pattern.firstAt, at);
+            int second = pick(pattern.secondAt, at);
             int firstGroup = pick(frozen.firstGroup, node);
             int secondGroup = pick(frozen.secondGroup, node);
-            for (int word = 0; word < pattern.words; word++) {
+            for (int word = 0; word < pattern.words && word < MOST_WORDS; word++) {
                 long left = open[above * MOST_WORDS + word] & allowed(first, firstGroup, word);
                 if (second != NONE) {
                     left &= allowed(second, secondGroup, word);
@@ -1571,10 +1616,10 @@ public final class SaturnalGraph {
 
         private boolean isOpen(int row) {
             int start = row * MOST_WORDS;
-            if (open[start] == 0L) {
+            if (row < 0 || row > LARGEST_SIDE || open[start] == 0L) {
                 return false;
             }
-            for (int from = 1; from < pattern.words; from += SET_WORDS) {
+            for (int from = 1; from < pattern.words && from + SET_WORDS <= MOST_WORDS; from += SET_WORDS) {
                 long any = 0L;
                 for (int word = from; word < from + SET_WORDS; word++) {
                     any |= open[start + word];
@@ -1621,13 +1666,16 @@ public final class SaturnalGraph {
 
         /** Chooses the next node for an operator of the pattern. */
         private boolean choose(int row, boolean isFresh) {
+            if (row < 0 || row >= LARGEST_SIDE) {
+                return false;
+            }
             int at = pattern.operatorAt[row];
             int node = candidate(row, isFresh);
             for (int i = 0; i < NODES && node != NONE; i++) {
                 nodeAt[row] = node;
                 if (narrow(row, row + 1, at, node)) {
-                    setClass(pattern.firstAt[at], pick(frozen.firstGroup, node));
-                    setClass(pattern.secondAt[at], pick(frozen.secondGroup, node));
+                    setClass(pick(pattern.firstAt, at), pick(frozen.firstGroup, node));
+                    setClass(pick(pattern.secondAt, at), pick(frozen.secondGroup, node));
                     return true;
                 }
                 node = candidate(row, false);
@@ -1636,10 +1684,10 @@ public final class SaturnalGraph {
         }
 
         private int candidate(int row, boolean isFresh) {
-            int at = pattern.operatorAt[row];
-            int kind = pattern.kindAt[at];
+            int at = pick(pattern.operatorAt, row);
+            int kind = pick(pattern.kindAt, at);
             if (row > 0) {
-                return isFresh ? frozen.firstOf(kind, classAt[at]) : pick(frozen.following, nodeAt[row]);
+                return isFresh ? frozen.firstOf(kind, pick(classAt, at)) : pick(frozen.following, pick(nodeAt, row));
             }
             int node = isFresh ? NONE : pick(frozen.following, nodeAt[0]);
             int group = isFresh ? 0 : pick(frozen.group, nodeAt[0]) + 1;

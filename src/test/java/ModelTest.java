@@ -117,8 +117,25 @@ public final class ModelTest {
         return asTerm(call("number", c - '0'));
     }
 
+    private String randomText(int depth, String leaves) {
+        int kind = depth == 0 ? 0 : next(6);
+        if (kind < 1 + (depth < 3 ? 1 : 0)) {
+            return "" + leaves.charAt(next(leaves.length()));
+        }
+        if (kind == 5) {
+            return (style == 3 ? "f" : "~") + randomText(depth - 1, leaves);
+        }
+        String sign = style == 3 ? "g" : style == 1 ? "+" : "" + "+*-g".charAt(next(4));
+        return sign + randomText(depth - 1, leaves) + randomText(depth - 1, leaves);
+    }
+
+    private String randomRule() {
+        String leaves = next(2) == 0 ? "aabbcd" : next(2) == 0 ? "ab" : "abc01u";
+        return randomText(4, leaves) + "=" + randomText(2, leaves);
+    }
+
     private void addIdentity() {
-        String text = IDENTITIES[next(IDENTITIES.length)];
+        String text = next(3) == 0 ? randomRule() : IDENTITIES[next(IDENTITIES.length)];
         position = 0;
         int left = spell(text);
         position = text.indexOf('=') + 1;
