@@ -308,6 +308,16 @@ public final class PromiseTest {
         due(10, x.nodes());
         due(5, x.put(all));
         thrown(STATE, () -> x.put(five - 1));
+        // a part is the class that it is in now
+        SaturnalGraph w = new SaturnalGraph();
+        w.put(w.variable(0));
+        w.put(w.variable(1));
+        w.join(0, 1);
+        due(2, w.put(w.one('~', 1)));
+        due(2, w.put(w.one('~', 0)));
+        due(3, w.put(w.two('g', 1, 1)));
+        due(3, w.put(w.two('g', 0, 1)));
+        due(4, w.nodes());
         // the node is that of the last time: the lowest alike one
         SaturnalGraph y = new SaturnalGraph();
         int p = y.variable(0);
@@ -383,6 +393,22 @@ public final class PromiseTest {
         due(true, x.areSame(ffa, ffb));
         due(3, x.classes());
         due(0, x.rebuild());
+        // what a higher node tells of lower ones is found when all is gone through again
+        SaturnalGraph w = new SaturnalGraph();
+        int[] v4 = {w.variable(0), w.variable(1), w.variable(2), w.variable(3)};
+        int low = w.one('f', v4[0]);
+        int alsoLow = w.one('f', v4[1]);
+        int high = w.one('~', v4[2]);
+        int alsoHigh = w.one('~', v4[3]);
+        for (int t : new int[] {low, alsoLow, high, alsoHigh}) {
+            w.put(t);
+        }
+        w.join(v4[0], high);
+        w.join(v4[1], alsoHigh);
+        w.join(v4[2], v4[3]);
+        due(2, w.rebuild());
+        due(true, w.areSame(low, alsoLow));
+        due(3, w.classes());
         // a reckoning puts in a number and joins it
         SaturnalGraph y = new SaturnalGraph();
         int two = y.number(2);
@@ -493,6 +519,20 @@ public final class PromiseTest {
         thrown(NO_SUCH, () -> x.constant(x.put(a)));
         thrown(INDEX, () -> x.constant(x.nodes()));
         thrown(INDEX, () -> x.constant(-1));
+        // a class that gets its constant from one with a higher number
+        SaturnalGraph w = new SaturnalGraph();
+        int v0 = w.variable(0);
+        int v1 = w.variable(1);
+        int less = w.one('~', v1);
+        w.put(v0);
+        w.put(less);
+        w.put(w.number(8));
+        w.put(w.number(-8));
+        w.join(v0, less);
+        w.join(v1, less + 1);
+        due(1, w.rebuild());
+        due(-8, w.constant(0));
+        due(0, w.clashes());
         // the first one by rising numbers, and ints wrap
         SaturnalGraph y = new SaturnalGraph();
         int big = y.number(99);
@@ -522,15 +562,15 @@ public final class PromiseTest {
         due(1, x.clashes());
         promise = 27;
         SaturnalGraph z = new SaturnalGraph();
-        int v0 = z.variable(0);
+        int z0 = z.variable(0);
         int v5 = z.variable(5);
-        int both = z.two('g', v0, z.two('*', v5, z.number(0)));
+        int both = z.two('g', z0, z.two('*', v5, z.number(0)));
         int node = z.put(both);
         due(33, z.free(node));
         due(1, z.free(0));
         due(32, z.free(1));
         due(0, z.free(2));
-        z.put(z.one('f', v0));
+        z.put(z.one('f', z0));
         z.join(z.terms() - 1, both);
         due(1, z.free(node));
         // a class that is a part of itself: as many as can be
@@ -567,6 +607,11 @@ public final class PromiseTest {
         due(1, x.matches(same));
         due(2, x.matches(known));
         due(1, x.matches(notZero));
+        x.put(x.two('g', x.number(-1), b));
+        x.rebuild();
+        due(2, x.matches(notZero));
+        due(3, x.matches(known));
+        due(5, x.matches(any));
         due(1, x.matches(nested));
         due(0, x.matches(exact));
         x.put(x.two('g', a, zero));
@@ -575,10 +620,10 @@ public final class PromiseTest {
         // with a and b in one class two nodes are alike, and their matches are one
         x.join(a, b);
         x.rebuild();
-        due(4, x.matches(any));
+        due(5, x.matches(any));
         x.setLimit(any, 1);
         x.setNodes(10);
-        due(4, x.matches(any));
+        due(5, x.matches(any));
         // a class in which each node is in itself: one match, not one for each way
         SaturnalGraph y = new SaturnalGraph();
         int v = y.variable(0);
@@ -632,6 +677,33 @@ public final class PromiseTest {
             q = y.two('g', y.one('f', y.hole(i)), q);
         }
         due(30 * 30 * 30 * 30, y.matches(y.rule(q, first, '-')));
+    }
+
+    /** Holes that stand more than once, in classes whose numbers lie far apart. */
+    private static void repeatedHoles() {
+        promise = 29;
+        SaturnalGraph x = new SaturnalGraph();
+        int[] n = new int[70];
+        for (int i = 0; i < 70; i++) {
+            n[i] = x.number(i);
+            x.put(n[i]);
+        }
+        int h0 = x.hole(0);
+        int h1 = x.hole(1);
+        int same = x.rule(x.two('g', h0, h0), h0, '-');
+        int crossed = x.rule(x.two('+', x.two('g', h0, h1), x.two('g', h1, h0)), h0, '-');
+        int deep = x.rule(x.two('+', x.two('g', h0, h1), x.two('g', h0, h1)), h0, '-');
+        int low = x.two('g', n[1], n[65]);
+        int high = x.two('g', n[65], n[1]);
+        int even = x.two('g', n[65], n[65]);
+        x.put(x.two('+', low, high));
+        x.put(x.two('+', low, even));
+        x.put(x.two('+', even, even));
+        x.put(x.two('+', high, high));
+        x.rebuild();
+        due(1, x.matches(same));
+        due(2, x.matches(crossed));
+        due(2, x.matches(deep));
     }
 
     private static void rounds() {
@@ -1091,6 +1163,7 @@ public final class PromiseTest {
         riders();
         matching();
         hardMatching();
+        repeatedHoles();
         rounds();
         roundsInDetail();
         bans();
