@@ -41,14 +41,32 @@ public final class SaturnalGraph {
     private static final int RECKONING = 101;
     private static final int CONGRUENCE = 102;
 
-    // A pattern of four holes has at most 150 * 150 * 150 * 150 matches in 300 nodes.
-    private static final int MOST_MATCHES = 1000000000;
-    private static final int MOST_MOVES = 10000000;
+    // Four holes have at most 300 * 300 * 300 * 300 matches, since these tell the class.
+    private static final long MOST_MATCHES = 8100000000L;
+    private static final int LARGEST_INT = 2147483647;
 
-    // A set of classes is kept in five longs.
+    // The search for matches: its sets are of classes or of entries, kept in five longs each.
     private static final int SET_WORDS = 5;
-    private static final int MOST_WORDS = 1 + HOLES * SET_WORDS;
-    private static final int LARGEST_TABLE = (LARGEST_SIDE - 1) * NODES * MOST_WORDS;
+    private static final int SLOTS = 2 * LARGEST_SIDE;
+    private static final int LEVELS = HOLES + 1;
+    private static final int ALIVE_SETS = 0;
+    private static final int HOLE_SETS = ALIVE_SETS + LEVELS * LARGEST_SIDE;
+    private static final int BUILT_SETS = HOLE_SETS + LEVELS * HOLES;
+    private static final int WANTED_SETS = BUILT_SETS + LARGEST_SIDE;
+    private static final int LEAF_SETS = WANTED_SETS + SLOTS;
+    private static final int KEY_SET = LEAF_SETS + SLOTS;
+    private static final int FIRST_SETS = KEY_SET + 1;
+    private static final int SECOND_SETS = FIRST_SETS + NODES;
+    private static final int GROUP_SETS = SECOND_SETS + NODES;
+    private static final int REMEMBERED_SETS = GROUP_SETS + NODES;
+    private static final int ROOM_TO_REMEMBER = 10000;
+    private static final int MOST_REMEMBERED = 1024;
+    private static final int SETS = REMEMBERED_SETS + ROOM_TO_REMEMBER;
+
+    // How much the list of matches has room for: first, and when it has grown.
+    private static final int FIRST_FINDS = 128;
+    private static final int FIRST_ENTRIES = 1024;
+    private static final int LARGEST_ENTRIES = 262144;
 
     private final Terms terms = new Terms();
     private final int[] left = new int[RULES];
@@ -301,7 +319,7 @@ public final class SaturnalGraph {
         }
         matcher.freeze();
         matcher.aim(left[rule], condition[rule]);
-        return matcher.countUpTo(MOST_MATCHES);
+        return (int) Math.min(LARGEST_INT, matcher.countUpTo(MOST_MATCHES));
     }
 
     public int round() {
@@ -604,7 +622,7 @@ public final class SaturnalGraph {
             }
             int limit = progress.limits[rule];
             matcher.aim(left[rule], condition[rule]);
-            if (matcher.countUpTo(limit + 1) > limit) {
+            if (matcher.countUpTo(limit + 1L) > limit) {
                 progress.ban(rule);
                 heldBack = true;
             } else {
@@ -613,20 +631,26 @@ public final class SaturnalGraph {
         }
     }
 
-    /** Finds the matches of the rule once more in the graph as it was, and applies each at once. */
+    /** Lists the matches of the rule in the graph as it was, and applies each. */
     private int applyRule(int rule) {
         int joined = 0;
         int limit = progress.limits[rule];
         int size = terms.listParts(right[rule], order);
         matcher.aim(left[rule], condition[rule]);
-        for (int i = 0; i < limit && matcher.advance(); i++) {
-            int node = placeListed(size);
-            if (node == NONE) {
-                progress.spent = true;
-                return joined;
+        boolean isMore = true;
+        // A gathering that leaves some matches for the next one has at least one.
+        for (int turn = 0; turn <= limit && isMore; turn++) {
+            isMore = matcher.gather();
+            for (int i = 0; i < matcher.finds.count; i++) {
+                matcher.choose(i);
+                int node = placeListed(size);
+                if (node == NONE) {
+                    progress.spent = true;
+                    return joined;
+                }
+                progress.appliedTimes[rule]++;
+                joined += graph.connect(node, matcher.node, rule) ? 1 : 0;
             }
-            progress.appliedTimes[rule]++;
-            joined += graph.connect(node, matcher.nodeAt[0], rule) ? 1 : 0;
         }
         return joined;
     }
@@ -1370,18 +1394,24 @@ public final class SaturnalGraph {
     }
 
     /**
-     * The graph as it was when matches were sought, so that they can be found again, one by one, while
-     * they are applied. Of alike nodes only the lowest is kept: the others match no more than it does.
+     * The graph as it was when matches were sought, so that they can be listed while they are applied.
+     * Its nodes with operators are entries, by kinds, classes and nodes; of alike nodes only the lowest is
+     * one, since the others match no more than it does.
      */
     private static final class Frozen {
         final int[] group = new int[NODES];
-        final int[] firstGroup = new int[NODES];
-        final int[] secondGroup = new int[NODES];
-        final int[] leading = new int[KINDS * NODES];
-        final int[] following = new int[NODES];
         final boolean[] known = new boolean[NODES];
         final int[] constants = new int[NODES];
+        // The lowest node of each kind in each class, and then its entry.
+        final int[] leading = new int[KINDS * NODES];
+        final int[] following = new int[NODES];
+        final int[] nodeOf = new int[NODES];
+        final int[] groupOf = new int[NODES];
+        final int[] firstOf = new int[NODES];
+        final int[] secondOf = new int[NODES];
+        final int[] starts = new int[KINDS + 1];
         int count = 0;
+        int entries = 0;
 
         void take(Graph graph, Readings readings) {
             count = graph.count;
@@ -1389,322 +1419,871 @@ public final class SaturnalGraph {
             for (int i = graph.count - 1; i >= 0; i--) {
                 int kind = pick(graph.kind, i);
                 group[i] = graph.classAt(i);
-                firstGroup[i] = graph.firstKey(i);
-                secondGroup[i] = graph.secondKey(i);
                 known[i] = readings.isKnown(i);
                 constants[i] = readings.constants[i];
                 following[i] = NONE;
-                boolean isLowest = graph.lowestAlike(kind, firstGroup[i], secondGroup[i], i) == NONE;
+                boolean isLowest = graph.lowestAlike(kind, graph.firstKey(i), graph.secondKey(i), i) == NONE;
                 int index = kind * NODES + group[i];
                 if (isLowest && kind >= CONTRARY && index >= 0 && index < leading.length) {
                     following[i] = leading[index];
                     leading[index] = i;
                 }
             }
+            entries = 0;
+            for (int kind = CONTRARY; kind < KINDS; kind++) {
+                starts[kind] = entries;
+                for (int of = 0; of < count; of++) {
+                    takeEntries(kind, of, graph);
+                }
+            }
+            starts[KINDS] = entries;
         }
 
-        /** The lowest node of this operator in the class. */
-        int firstOf(int kind, int ofGroup) {
-            int index = kind * NODES + ofGroup;
-            return ofGroup >= 0 && ofGroup < count && index >= 0 && index < leading.length ? leading[index] : NONE;
+        private void takeEntries(int kind, int of, Graph graph) {
+            int index = kind * NODES + of;
+            int node = pick(leading, index);
+            if (node == NONE || index < 0 || index >= leading.length) {
+                return;
+            }
+            leading[index] = entries;
+            for (int i = 0; i < NODES && node != NONE && entries < NODES; i++) {
+                nodeOf[entries] = node;
+                groupOf[entries] = of;
+                firstOf[entries] = graph.firstKey(node);
+                secondOf[entries] = graph.secondKey(node);
+                entries++;
+                node = pick(following, node);
+            }
         }
 
-        boolean fits(int ofGroup, char condition) {
-            if (ofGroup < 0 || ofGroup >= NODES) {
+        /** The first entry of a kind in a class, or in any; NONE if there is none. */
+        int firstEntry(int kind, int of) {
+            return of == NONE ? pick(starts, kind) : pick(leading, kind * NODES + of);
+        }
+
+        /** Whether a hole with this condition can be this class. */
+        boolean fits(int of, char condition) {
+            if (of < 0 || of >= count || group[of] != of) {
                 return false;
             }
-            return condition == '-' || known[ofGroup] && (condition == 'n' || constants[ofGroup] != 0);
+            return condition == '-' || known[of] && (condition == 'n' || constants[of] != 0);
         }
     }
 
     /**
-     * The left term of a rule, a position for each sign of it; parts stand behind their operator. For a
-     * number or a variable, 'firstAt' is the class in which it is; for a hole, its number.
+     * The left term of a rule: a row for each operator of it, ahead of those of its parts. The parts of a
+     * row are at two slots, 2 * row and the next one: a part is a row, a hole, or a leaf in a class.
      */
     private static final class Pattern {
         final int[] termAt = new int[LARGEST_SIDE];
-        final int[] kindAt = new int[LARGEST_SIDE];
-        final int[] firstAt = new int[LARGEST_SIDE];
-        final int[] secondAt = new int[LARGEST_SIDE];
-        final int[] rowAt = new int[LARGEST_SIDE];
-        final int[] operatorAt = new int[LARGEST_SIDE];
+        final int[] slotAt = new int[LARGEST_SIDE];
+        final int[] rowKind = new int[LARGEST_SIDE];
+        final int[] rowSlot = new int[LARGEST_SIDE];
+        final int[] rowHoles = new int[LARGEST_SIDE];
+        final int[] slotRow = new int[SLOTS];
+        final int[] slotHole = new int[SLOTS];
+        final int[] slotGroup = new int[SLOTS];
+        final int[] slotHoles = new int[SLOTS];
+        // The set of the classes that the part can be, and how far it is from that of the next level.
+        final int[] slotSet = new int[SLOTS];
+        final int[] slotStep = new int[SLOTS];
         final int[] stands = new int[HOLES];
-        final int[] wordOf = new int[HOLES];
-        final boolean[] fits = new boolean[NODES];
-        int operators = 0;
-        int words = 0;
+        final int[] lastSlot = new int[HOLES];
+        int rows = 0;
 
-        void take(int term, char condition, Terms terms, Graph graph, Frozen frozen) {
+        void take(int term, Terms terms, Graph graph, Frozen frozen) {
             int size = Math.min(LARGEST_SIDE, pick(terms.sizes, term));
             Arrays.fill(stands, 0);
-            operators = 0;
-            termAt[0] = term;
+            Arrays.fill(slotRow, NONE);
+            Arrays.fill(slotHole, NONE);
+            Arrays.fill(slotGroup, NONE);
+            Arrays.fill(slotHoles, 0);
+            Arrays.fill(slotStep, 0);
+            for (int slot = 0; slot < SLOTS; slot++) {
+                slotSet[slot] = LEAF_SETS + slot;
+            }
+            rows = 0;
+            setTerm(0, term, NONE, terms);
+            // A part stands behind its operator, so that its term is set when its turn comes.
             for (int at = 0; at < size; at++) {
-                int kind = pick(terms.kind, termAt[at]);
-                kindAt[at] = kind;
-                secondAt[at] = NONE;
-                if (kind >= CONTRARY) {
+                if (pick(terms.kind, termAt[at]) >= CONTRARY) {
                     takeOperator(at, terms);
                 } else {
                     takeLeaf(at, terms, graph, frozen);
                 }
             }
-            for (int group = 0; group < frozen.count; group++) {
-                fits[group] = frozen.fits(group, condition);
+        }
+
+        private void setTerm(int at, int term, int slot, Terms terms) {
+            if (at >= 0 && at < LARGEST_SIDE) {
+                termAt[at] = term;
+                slotAt[at] = slot;
             }
-            words = 1;
-            for (int hole = 0; hole < HOLES; hole++) {
-                wordOf[hole] = stands[hole] > 1 ? words : 0;
-                words += stands[hole] > 1 ? SET_WORDS : 0;
+            if (slot >= 0 && slot < SLOTS) {
+                slotHoles[slot] = pick(terms.holes, term);
             }
         }
 
         private void takeOperator(int at, Terms terms) {
-            if (at < 0 || at >= LARGEST_SIDE || operators >= LARGEST_SIDE) {
+            if (at < 0 || at >= LARGEST_SIDE || rows < 0 || rows >= LARGEST_SIDE) {
                 return;
             }
             int term = termAt[at];
+            int slot = slotAt[at];
             int first = pick(terms.first, term);
-            rowAt[at] = operators;
-            operatorAt[operators] = at;
-            operators++;
-            firstAt[at] = at + 1;
-            setTerm(at + 1, first);
-            if (kindAt[at] >= PLUS) {
-                secondAt[at] = at + 1 + pick(terms.sizes, first);
-                setTerm(secondAt[at], pick(terms.second, term));
+            rowKind[rows] = pick(terms.kind, term);
+            rowHoles[rows] = pick(terms.holes, term);
+            rowSlot[rows] = slot;
+            if (slot >= 0 && slot < SLOTS) {
+                slotRow[slot] = rows;
+                slotSet[slot] = BUILT_SETS + rows;
             }
-        }
-
-        private void setTerm(int at, int term) {
-            if (at >= 0 && at < LARGEST_SIDE) {
-                termAt[at] = term;
+            setTerm(at + 1, first, 2 * rows, terms);
+            if (rowKind[rows] >= PLUS) {
+                setTerm(at + 1 + pick(terms.sizes, first), pick(terms.second, term), 2 * rows + 1, terms);
             }
+            rows++;
         }
 
         private void takeLeaf(int at, Terms terms, Graph graph, Frozen frozen) {
-            if (at < 0 || at >= LARGEST_SIDE) {
+            int term = pick(termAt, at);
+            int slot = pick(slotAt, at);
+            int kind = pick(terms.kind, term);
+            int own = pick(terms.first, term);
+            if (slot < 0 || slot >= SLOTS) {
                 return;
             }
-            int own = pick(terms.first, termAt[at]);
-            if (kindAt[at] == HOLE) {
-                firstAt[at] = own;
-                if (own >= 0 && own < HOLES) {
-                    stands[own]++;
-                }
-            } else {
-                firstAt[at] = pick(frozen.group, graph.lowestAlike(kindAt[at], own, NONE, frozen.count));
+            if (kind != HOLE) {
+                slotGroup[slot] = pick(frozen.group, graph.lowestAlike(kind, own, NONE, frozen.count));
+            } else if (own >= 0 && own < HOLES) {
+                slotHole[slot] = own;
+                slotSet[slot] = HOLE_SETS + own;
+                slotStep[slot] = HOLES;
+                stands[own]++;
+                lastSlot[own] = slot;
             }
         }
     }
 
-    /**
-     * Finds matches one by one, in their order. So that no time is lost on choices that lead nowhere, a
-     * row of words goes with each operator of the pattern and each class: word 0 is 0 if the class can't
-     * match there; for each hole that stands more than once, five words are the set of classes that it
-     * can be then.
-     */
-    private static final class Matcher {
-        final Terms terms;
-        final Graph graph;
-        final Readings readings;
-        final Frozen frozen = new Frozen();
-        final Pattern pattern = new Pattern();
-        final int[] nodeAt = new int[LARGEST_SIDE];
-        final int[] classAt = new int[LARGEST_SIDE];
-        final int[] holeClass = new int[HOLES];
-        // Row 0 is open for all; the row behind that of an operator is what its choice leaves open.
-        final long[] open = new long[(LARGEST_SIDE + 1) * MOST_WORDS];
-        long[] table = new long[0];
-        boolean isStarted = false;
-        boolean isOver = true;
+    /** Numbered sets of classes or of entries, of which there are at most 300. */
+    private static final class Sets {
+        final long[] words = new long[SETS * SET_WORDS];
 
-        Matcher(Terms terms, Graph graph, Readings readings) {
-            this.terms = terms;
-            this.graph = graph;
-            this.readings = readings;
-            Arrays.fill(open, 0, MOST_WORDS, -1L);
+        boolean has(int set, int element) {
+            int index = set * SET_WORDS + (element >> 6);
+            return element >= 0 && element < NODES && index >= 0 && index < words.length
+                    && (words[index] >> (element & 63) & 1L) != 0L;
         }
 
-        /** Keeps the graph as it is; it must have been rebuilt. */
-        void freeze() {
-            readings.readConstants();
-            frozen.take(graph, readings);
-        }
-
-        /** Prepares for the matches of a left term in the frozen graph. */
-        void aim(int left, char condition) {
-            pattern.take(left, condition, terms, graph, frozen);
-            isStarted = false;
-            isOver = pattern.operators == 0;
-            makeTable();
-            for (int row = pattern.operators - 1; row > 0; row--) {
-                fillRow(row);
+        void include(int set, int element) {
+            int index = set * SET_WORDS + (element >> 6);
+            if (element >= 0 && element < NODES && index >= 0 && index < words.length) {
+                words[index] |= 1L << (element & 63);
             }
         }
 
-        /** The table grows with the rules, since most of them need little of it. */
-        private void makeTable() {
-            int needed = (pattern.operators - 1) * NODES * pattern.words;
-            if (needed > table.length && needed <= LARGEST_TABLE) {
-                table = new long[Math.min(LARGEST_TABLE, Math.max(needed, 2 * table.length))];
+        void exclude(int set, int element) {
+            int index = set * SET_WORDS + (element >> 6);
+            if (element >= 0 && element < NODES && index >= 0 && index < words.length) {
+                words[index] &= ~(1L << (element & 63));
             }
         }
 
-        private void fillRow(int row) {
-            int at = pick(pattern.operatorAt, row);
-            int words = Math.min(MOST_WORDS, pattern.words);
-            for (int group = 0; group < frozen.count; group++) {
-                int index = ((row - 1) * NODES + group) * words;
-                if (index < 0 || index + words > table.length) {
+        /** Empties so many sets from one on. */
+        void clear(int set, int many) {
+            if (set >= 0 && many >= 0 && set + many <= SETS) {
+                Arrays.fill(words, set * SET_WORDS, (set + many) * SET_WORDS, 0L);
+            }
+        }
+
+        /** Copies so many sets from one on to those from another one on. */
+        void copy(int from, int to, int many) {
+            if (from >= 0 && to >= 0 && many >= 0 && from + many <= SETS && to + many <= SETS) {
+                System.arraycopy(words, from * SET_WORDS, words, to * SET_WORDS, many * SET_WORDS);
+            }
+        }
+
+        /** The lowest element from one on, NONE if there is none. */
+        int next(int set, int from) {
+            if (set < 0 || set >= SETS || from < 0) {
+                return NONE;
+            }
+            long mask = -1L << (from & 63);
+            for (int word = from >> 6; word < SET_WORDS; word++) {
+                long rest = words[set * SET_WORDS + word] & mask;
+                if (rest != 0L) {
+                    return (word << 6) + Long.bitCount((rest & -rest) - 1L);
+                }
+                mask = -1L;
+            }
+            return NONE;
+        }
+
+        int count(int set) {
+            int found = 0;
+            for (int word = 0; word < SET_WORDS && set >= 0 && set < SETS; word++) {
+                found += Long.bitCount(words[set * SET_WORDS + word]);
+            }
+            return found;
+        }
+
+        /** Takes away what is not in the other one. */
+        void retain(int set, int other) {
+            if (set < 0 || set >= SETS || other < 0 || other >= SETS) {
+                return;
+            }
+            for (int word = 0; word < SET_WORDS; word++) {
+                words[set * SET_WORDS + word] &= words[other * SET_WORDS + word];
+            }
+        }
+
+        /** If 'of' has one element only, takes away what is not in the set that stands so far behind 'base'. */
+        void retainFor(int set, int base, int of) {
+            int single = NONE;
+            for (int word = 0; word < SET_WORDS && of >= 0 && of < SETS; word++) {
+                long all = words[of * SET_WORDS + word];
+                if (all != 0L && (single != NONE || (all & all - 1L) != 0L)) {
                     return;
                 }
-                Arrays.fill(table, index, index + words, 0L);
-                int node = frozen.firstOf(pick(pattern.kindAt, at), group);
-                for (int i = 0; i < NODES && node != NONE; i++) {
-                    if (narrow(0, 1, at, node)) {
-                        for (int word = 0; word < words; word++) {
-                            table[index + word] |= open[MOST_WORDS + word];
-                        }
+                single = all != 0L ? (word << 6) + Long.bitCount(all - 1L) : single;
+            }
+            int other = base + single;
+            for (int word = 0; word < SET_WORDS && single != NONE; word++) {
+                if (set >= 0 && set < SETS && other >= 0 && other < SETS) {
+                    words[set * SET_WORDS + word] &= words[other * SET_WORDS + word];
+                }
+            }
+        }
+
+        boolean isWithin(int set, int other) {
+            if (set < 0 || set >= SETS || other < 0 || other >= SETS) {
+                return false;
+            }
+            long beyond = 0L;
+            for (int word = 0; word < SET_WORDS; word++) {
+                beyond |= words[set * SET_WORDS + word] & ~words[other * SET_WORDS + word];
+            }
+            return beyond == 0L;
+        }
+    }
+
+    /**
+     * How many matches were found for what was left at a level. Another level has as many if it leaves the
+     * same choices wherever a hole is still open: what is settled needs not be the same. A place is told by
+     * a hash; what comes to a place takes it.
+     */
+    private static final class Memory {
+        final Frozen frozen;
+        final Pattern pattern;
+        final Sets sets;
+        final int[] searches = new int[MOST_REMEMBERED];
+        final long[] hashes = new long[MOST_REMEMBERED];
+        final int[] givenHoles = new int[MOST_REMEMBERED];
+        final long[] found = new long[MOST_REMEMBERED];
+        final int[] groupOfKey = new int[NODES];
+        final long[] hashAt = new long[LEVELS];
+        int search = 0;
+        int places = 1;
+
+        Memory(Frozen frozen, Pattern pattern, Sets sets) {
+            this.frozen = frozen;
+            this.pattern = pattern;
+            this.sets = sets;
+        }
+
+        /** Forgets all, for a new search. */
+        void forget() {
+            search++;
+            places = Math.min(MOST_REMEMBERED, ROOM_TO_REMEMBER / Math.max(1, pattern.rows));
+        }
+
+        /** What was found where as much was left as at a level with these holes given, NONE if not known. */
+        long recall(int level, int given) {
+            if (level < 0 || level >= LEVELS) {
+                return NONE;
+            }
+            hashAt[level] = hash(level, given);
+            int place = placeOf(hashAt[level]);
+            boolean isKnown = searches[place] == search && hashes[place] == hashAt[level]
+                    && givenHoles[place] == given;
+            for (int row = 0; row < pattern.rows && isKnown; row++) {
+                int one = REMEMBERED_SETS + place * pattern.rows + row;
+                int other = ALIVE_SETS + level * LARGEST_SIDE + row;
+                isKnown = (pick(pattern.rowHoles, row) & ~given) == 0 || isRowLike(row, one, other, given);
+            }
+            return isKnown ? found[place] : NONE;
+        }
+
+        /** Remembers what was found for a level; it must have been asked for before. */
+        void remember(int level, int given, long many) {
+            if (level < 0 || level >= LEVELS) {
+                return;
+            }
+            int place = placeOf(hashAt[level]);
+            searches[place] = search;
+            hashes[place] = hashAt[level];
+            givenHoles[place] = given;
+            found[place] = many;
+            sets.copy(ALIVE_SETS + level * LARGEST_SIDE, REMEMBERED_SETS + place * pattern.rows, pattern.rows);
+        }
+
+        private int placeOf(long hash) {
+            int range = Math.max(1, Math.min(MOST_REMEMBERED, places));
+            return (int) Math.floorMod(hash >> 20, (long) range);
+        }
+
+        /** A sum, so that it is the same in whatever order the entries stand. */
+        private long hash(int level, int given) {
+            long total = given;
+            for (int row = 0; row < pattern.rows; row++) {
+                int set = ALIVE_SETS + level * LARGEST_SIDE + row;
+                boolean isFirstOpen = (pick(pattern.slotHoles, 2 * row) & ~given) != 0;
+                boolean isSecondOpen = (pick(pattern.slotHoles, 2 * row + 1) & ~given) != 0;
+                int entry = isFirstOpen || isSecondOpen ? sets.next(set, 0) : NONE;
+                for (int i = 0; i < NODES && entry != NONE; i++) {
+                    long first = isFirstOpen ? pick(frozen.firstOf, entry) : NONE;
+                    long second = isSecondOpen ? pick(frozen.secondOf, entry) : NONE;
+                    long group = row == 0 ? NONE : pick(frozen.groupOf, entry);
+                    long mixed = (((row * 512L + first) * 512L + second) * 512L + group) * 0x9E3779B97F4A7C15L;
+                    total += (mixed ^ mixed >>> 29) * 0xBF58476D1CE4E5B9L;
+                    entry = sets.next(set, entry + 1);
+                }
+            }
+            return total;
+        }
+
+        private boolean isRowLike(int row, int one, int other, int given) {
+            boolean isFirstGiven = (pick(pattern.slotHoles, 2 * row) & ~given) == 0;
+            boolean isSecondGiven = (pick(pattern.slotHoles, 2 * row + 1) & ~given) == 0;
+            if (pick(pattern.rowKind, row) < PLUS || !isFirstGiven && !isSecondGiven) {
+                return sets.isWithin(one, other) && sets.isWithin(other, one);
+            }
+            // The part that is given is one class in each set; what counts is which classes the other one
+            // has and what comes of each. At the top nothing hangs on what comes of it.
+            int[] open = isFirstGiven ? frozen.secondOf : frozen.firstOf;
+            sets.clear(KEY_SET, 1);
+            int entry = sets.next(one, 0);
+            for (int i = 0; i < NODES && entry != NONE; i++) {
+                int key = pick(open, entry);
+                if (key >= 0 && key < NODES) {
+                    sets.include(KEY_SET, key);
+                    groupOfKey[key] = pick(frozen.groupOf, entry);
+                }
+                entry = sets.next(one, entry + 1);
+            }
+            boolean isLike = sets.count(one) == sets.count(other);
+            entry = sets.next(other, 0);
+            for (int i = 0; i < NODES && entry != NONE && isLike; i++) {
+                int key = pick(open, entry);
+                isLike = sets.has(KEY_SET, key)
+                        && (row == 0 || pick(groupOfKey, key) == pick(frozen.groupOf, entry));
+                entry = sets.next(other, entry + 1);
+            }
+            return isLike;
+        }
+    }
+
+    /**
+     * Matches, each as the entries of its rows, which also tell their order. What finds no room is left
+     * out, the last ones first, for another gathering behind those that were kept.
+     */
+    private static final class Finds {
+        final Frozen frozen;
+        final Pattern pattern;
+        final Sets sets;
+        int[] entries = new int[FIRST_ENTRIES];
+        // The places in 'entries' of the matches: as they came, and a heap with the last one on top from
+        // when there is no more room.
+        int[] order = new int[FIRST_FINDS];
+        final int[] chosen = new int[LARGEST_SIDE];
+        final int[] floor = new int[LARGEST_SIDE];
+        int width = 1;
+        int count = 0;
+        boolean hasFloor = false;
+        boolean isCut = false;
+        boolean isSorted = true;
+        boolean isBegun = false;
+
+        Finds(Frozen frozen, Pattern pattern, Sets sets) {
+            this.frozen = frozen;
+            this.pattern = pattern;
+            this.sets = sets;
+        }
+
+        /** Prepares for the first matches of the pattern. */
+        void restart() {
+            width = Math.max(1, Math.min(LARGEST_SIDE, pattern.rows));
+            hasFloor = false;
+            begin();
+        }
+
+        /** Prepares for those behind the ones that are kept, which must have been sorted. */
+        void proceed() {
+            int from = count > 0 ? pick(order, count - 1) * width : NONE;
+            for (int row = 0; row < width && row < LARGEST_SIDE && count > 0; row++) {
+                floor[row] = pick(entries, from + row);
+            }
+            hasFloor = hasFloor || count > 0;
+            begin();
+        }
+
+        private void begin() {
+            count = 0;
+            isCut = false;
+            isSorted = true;
+        }
+
+        /** Goes back ahead of the first match that is left at a level. */
+        void rewind() {
+            isBegun = false;
+        }
+
+        /** Chooses the next match at a level where all that is left is in one, whatever is chosen ahead of it. */
+        boolean advance(int level) {
+            int row = isBegun ? width - 1 : 0;
+            boolean isFresh = !isBegun;
+            isBegun = true;
+            // First it goes back to where another entry can be chosen, then on to the last row.
+            for (int move = 0; move < SLOTS && row >= 0 && row < width && row < LARGEST_SIDE; move++) {
+                int group = groupFor(row);
+                int from = isFresh ? frozen.firstEntry(pick(pattern.rowKind, row), group) : chosen[row] + 1;
+                int entry = sets.next(ALIVE_SETS + level * LARGEST_SIDE + row, from);
+                isFresh = entry != NONE && (group == NONE || pick(frozen.groupOf, entry) == group);
+                if (!isFresh) {
+                    row--;
+                    continue;
+                }
+                chosen[row] = entry;
+                if (row == width - 1) {
+                    return true;
+                }
+                row++;
+            }
+            return false;
+        }
+
+        /** The class that a row must have after what was chosen ahead of it; NONE if it may have any. */
+        private int groupFor(int row) {
+            int slot = row > 0 ? pick(pattern.rowSlot, row) : NONE;
+            return slot < 0 ? NONE : pick((slot & 1) == 0 ? frozen.firstOf : frozen.secondOf, pick(chosen, slot >> 1));
+        }
+
+        /** Keeps what is chosen. */
+        void keep() {
+            if (hasFloor && compare(chosen, 0, floor, 0) <= 0) {
+                return;
+            }
+            if (!isCut && makeRoom()) {
+                isSorted = isSorted && (count == 0 || compare(chosen, 0, entries, (count - 1) * width) > 0);
+                System.arraycopy(chosen, 0, entries, count * width, width);
+                order[count] = count;
+                count++;
+                return;
+            }
+            for (int index = isCut ? NONE : count / 2; index >= 0; index--) {
+                sink(index, count);
+            }
+            isCut = true;
+            int top = pick(order, 0) * width;
+            if (top >= 0 && top + width <= entries.length && compare(chosen, 0, entries, top) < 0) {
+                System.arraycopy(chosen, 0, entries, top, width);
+                sink(0, count);
+            }
+        }
+
+        /** Whether there is room for one more. */
+        private boolean makeRoom() {
+            int needed = (count + 1) * width;
+            if (needed > LARGEST_ENTRIES || count < 0) {
+                return false;
+            }
+            if (needed > entries.length) {
+                entries = Arrays.copyOf(entries, Math.min(LARGEST_ENTRIES, Math.max(needed, 2 * entries.length)));
+            }
+            if (count >= order.length) {
+                order = Arrays.copyOf(order, 2 * count + 1);
+            }
+            return true;
+        }
+
+        /** Moves the one at an index down a heap of so many to where it belongs. */
+        private void sink(int index, int size) {
+            int end = Math.min(size, order.length);
+            int at = Math.max(0, index);
+            for (int below = 2 * at + 1; below < end; below = 2 * below + 1) {
+                if (below + 1 < end
+                        && compare(entries, order[below + 1] * width, entries, order[below] * width) > 0) {
+                    below++;
+                }
+                int own = order[at];
+                if (compare(entries, own * width, entries, order[below] * width) >= 0) {
+                    return;
+                }
+                order[at] = order[below];
+                order[below] = own;
+                at = below;
+            }
+        }
+
+        /** Puts what is kept in its order: takes the last one off the heap again and again. */
+        void sort() {
+            if (isSorted && !isCut) {
+                return;
+            }
+            for (int index = count / 2; index >= 0; index--) {
+                sink(index, count);
+            }
+            for (int end = Math.min(count, order.length) - 1; end > 0; end--) {
+                int last = order[0];
+                order[0] = order[end];
+                order[end] = last;
+                sink(0, end);
+            }
+        }
+
+        private int compare(int[] one, int oneFrom, int[] other, int otherFrom) {
+            if (oneFrom < 0 || otherFrom < 0 || oneFrom + width > one.length || otherFrom + width > other.length) {
+                return 0;
+            }
+            for (int row = 0; row < width; row++) {
+                if (one[oneFrom + row] != other[otherFrom + row]) {
+                    return one[oneFrom + row] - other[otherFrom + row];
+                }
+            }
+            return 0;
+        }
+
+        int entryOf(int index, int row) {
+            if (index < 0 || index >= count || row < 0 || row >= width) {
+                return NONE;
+            }
+            return pick(entries, pick(order, index) * width + row);
+        }
+    }
+
+    /**
+     * Seeks the matches of a pattern. At each level one more hole is given a class; for each row there is
+     * a set of entries, and for each hole one of classes: those that can be in a match as far as can be
+     * seen without knowing that holes that stand twice are the same there. Once each of these is down to
+     * one class, all that is left is in a match.
+     */
+    private static final class Search {
+        final Frozen frozen;
+        final Pattern pattern;
+        final Sets sets = new Sets();
+        final Finds finds;
+        final Memory memory;
+        final long[] ways = new long[LARGEST_SIDE * NODES];
+        // The holes that are down to one class at a level; bit 0 is for the hole 0.
+        final int[] given = new int[LEVELS];
+        boolean isListing = false;
+        long most = 0L;
+
+        Search(Frozen frozen, Pattern pattern) {
+            this.frozen = frozen;
+            this.pattern = pattern;
+            this.finds = new Finds(frozen, pattern, sets);
+            this.memory = new Memory(frozen, pattern, sets);
+        }
+
+        /** Sets down which entries have a class as their part, and which are in it. */
+        void index() {
+            sets.clear(FIRST_SETS, 3 * NODES);
+            for (int entry = 0; entry < frozen.entries && entry < NODES; entry++) {
+                sets.include(FIRST_SETS + frozen.firstOf[entry], entry);
+                sets.include(SECOND_SETS + Math.max(0, frozen.secondOf[entry]), entry);
+                sets.include(GROUP_SETS + frozen.groupOf[entry], entry);
+            }
+        }
+
+        /** Prepares the lowest level; false if there are no matches. */
+        boolean begin(char condition) {
+            sets.clear(ALIVE_SETS, LARGEST_SIDE);
+            sets.clear(HOLE_SETS, HOLES);
+            sets.clear(LEAF_SETS, SLOTS);
+            for (int row = 0; row < pattern.rows; row++) {
+                int kind = pick(pattern.rowKind, row);
+                int end = pick(frozen.starts, kind + 1);
+                for (int entry = Math.max(0, pick(frozen.starts, kind)); entry < end; entry++) {
+                    sets.include(ALIVE_SETS + row, entry);
+                }
+            }
+            for (int slot = 0; slot < SLOTS; slot++) {
+                sets.include(LEAF_SETS + slot, pick(pattern.slotGroup, slot));
+            }
+            for (int of = 0; of < frozen.count; of++) {
+                for (int hole = 0; hole < HOLES; hole++) {
+                    if (frozen.fits(of, hole == 0 ? condition : '-')) {
+                        sets.include(HOLE_SETS + hole, of);
                     }
-                    node = pick(frozen.following, node);
                 }
+            }
+            return pattern.rows > 0 && settle(0);
+        }
+
+        /** Counts, up to a bound, or lists the matches that are left at a level. */
+        private static long explore(Search search, int level) {
+            int hole = level >= 0 && level < HOLES ? search.nextHole(level) : NONE;
+            if (hole == NONE && !search.isListing) {
+                return search.countWays(level);
+            }
+            if (hole == NONE) {
+                search.finds.rewind();
+                for (long i = 0L; i < MOST_MATCHES && search.finds.advance(level); i++) {
+                    search.finds.keep();
+                }
+                return 1L;
+            }
+            int given = pick(search.given, level);
+            long known = search.memory.recall(level, given);
+            if (known != NONE) {
+                return known;
+            }
+            long total = 0L;
+            int group = search.sets.next(HOLE_SETS + level * HOLES + hole, 0);
+            for (int i = 0; i < NODES && group != NONE && total < search.most; i++) {
+                search.give(level, hole, group);
+                total += search.settle(level + 1) ? explore(search, level + 1) : 0L;
+                group = search.sets.next(HOLE_SETS + level * HOLES + hole, group + 1);
+            }
+            // A list needs each match, so that only what has none can be passed over.
+            if (total == 0L || !search.isListing) {
+                search.memory.remember(level, given, total);
+            }
+            return total;
+        }
+
+        /** Prepares for a count, up to a bound, or for a list. */
+        void set(boolean isForList, long atMost) {
+            memory.forget();
+            isListing = isForList;
+            most = atMost;
+        }
+
+        /** The hole to be given a class: of those that stand more than once, that with the fewest. */
+        private int nextHole(int level) {
+            int found = NONE;
+            int least = NODES + 1;
+            for (int hole = 0; hole < HOLES; hole++) {
+                int groups = pattern.stands[hole] > 1 ? sets.count(HOLE_SETS + level * HOLES + hole) : 0;
+                if (groups > 1 && groups < least) {
+                    found = hole;
+                    least = groups;
+                }
+            }
+            return found;
+        }
+
+        /** Copies a level to the next one, with one class for the hole. */
+        private void give(int level, int hole, int group) {
+            int from = ALIVE_SETS + level * LARGEST_SIDE;
+            sets.copy(from, from + LARGEST_SIDE, pattern.rows);
+            from = HOLE_SETS + level * HOLES;
+            sets.copy(from, from + HOLES, HOLES);
+            sets.clear(from + HOLES + hole, 1);
+            sets.include(from + HOLES + hole, group);
+        }
+
+        /** Takes from the sets of a level what can't be in a match; false if nothing is left. */
+        private boolean settle(int level) {
+            boolean again = true;
+            // Each turn but the first finds one class less for one slot at least.
+            for (int turn = 0; turn <= SLOTS * NODES && again; turn++) {
+                for (int row = pattern.rows - 1; row >= 0; row--) {
+                    if (isOpen(level, row) && !keepBuilt(level, row)) {
+                        return false;
+                    }
+                }
+                for (int row = 0; row < pattern.rows; row++) {
+                    if (isOpen(level, row)) {
+                        keepWanted(level, row);
+                    }
+                }
+                again = !agree(level);
+            }
+            setGiven(level);
+            return true;
+        }
+
+        /** Whether more than one entry was left for a row one level below, or may have been. */
+        private boolean isOpen(int level, int row) {
+            return level < 1 || (pick(pattern.rowHoles, row) & ~pick(given, level - 1)) != 0;
+        }
+
+        private void setGiven(int level) {
+            if (level < 0 || level >= LEVELS) {
+                return;
+            }
+            given[level] = 0;
+            for (int hole = 0; hole < HOLES; hole++) {
+                given[level] |= sets.count(HOLE_SETS + level * HOLES + hole) == 1 ? 1 << hole : 0;
             }
         }
 
-        /** Writes into a row what is left open of the one above if a node is chosen. */
-        private boolean narrow(int above, int row, int at, int node) {
-            if (above < 0 || above > LARGEST_SIDE || row < 0 || row > LARGEST_SIDE) {
-                return false;
+        /** Keeps those entries of a row whose parts can be built; false if there is none. */
+        private boolean keepBuilt(int level, int row) {
+            int own = ALIVE_SETS + level * LARGEST_SIDE + row;
+            int slot = 2 * row;
+            int first = pick(pattern.slotSet, slot) + level * pick(pattern.slotStep, slot);
+            int second = pick(pattern.slotSet, slot + 1) + level * pick(pattern.slotStep, slot + 1);
+            boolean isDouble = pick(pattern.rowKind, row) >= PLUS;
+            // Mostly there is one class for a part, and then the entries with it are there at once.
+            sets.retainFor(own, FIRST_SETS, first);
+            if (isDouble) {
+                sets.retainFor(own, SECOND_SETS, second);
             }
-            int first = pick(pattern.firstAt, at);
-            int second = pick(pattern.secondAt, at);
-            int firstGroup = pick(frozen.firstGroup, node);
-            int secondGroup = pick(frozen.secondGroup, node);
-            for (int word = 0; word < pattern.words && word < MOST_WORDS; word++) {
-                long left = open[above * MOST_WORDS + word] & allowed(first, firstGroup, word);
-                if (second != NONE) {
-                    left &= allowed(second, secondGroup, word);
+            boolean any = false;
+            sets.clear(BUILT_SETS + row, 1);
+            int entry = sets.next(own, 0);
+            for (int i = 0; i < NODES && entry != NONE; i++) {
+                if (sets.has(first, pick(frozen.firstOf, entry))
+                        && (!isDouble || sets.has(second, pick(frozen.secondOf, entry)))) {
+                    sets.include(BUILT_SETS + row, pick(frozen.groupOf, entry));
+                    any = true;
+                } else {
+                    sets.exclude(own, entry);
                 }
-                open[row * MOST_WORDS + word] = left;
+                entry = sets.next(own, entry + 1);
             }
-            return isOpen(row);
+            return any;
         }
 
-        private long allowed(int at, int group, int word) {
-            if (at < 0 || at >= LARGEST_SIDE || group < 0 || group >= NODES) {
-                return 0L;
+        /** Keeps those entries of a row that can be the part of an entry that was kept. */
+        private void keepWanted(int level, int row) {
+            int own = ALIVE_SETS + level * LARGEST_SIDE + row;
+            int wanted = WANTED_SETS + pick(pattern.rowSlot, row);
+            if (row > 0) {
+                sets.retainFor(own, GROUP_SETS, wanted);
             }
-            int kind = pattern.kindAt[at];
-            if (kind >= CONTRARY) {
-                int index = ((pattern.rowAt[at] - 1) * NODES + group) * pattern.words + word;
-                return index >= 0 && index < table.length ? table[index] : 0L;
+            sets.clear(WANTED_SETS + 2 * row, 2);
+            int entry = sets.next(own, 0);
+            for (int i = 0; i < NODES && entry != NONE; i++) {
+                if (row == 0 || sets.has(wanted, pick(frozen.groupOf, entry))) {
+                    sets.include(WANTED_SETS + 2 * row, pick(frozen.firstOf, entry));
+                    sets.include(WANTED_SETS + 2 * row + 1, pick(frozen.secondOf, entry));
+                } else {
+                    sets.exclude(own, entry);
+                }
+                entry = sets.next(own, entry + 1);
             }
-            int own = pattern.firstAt[at];
-            if (kind != HOLE) {
-                return own == group ? -1L : 0L;
-            }
-            if (own < 0 || own >= HOLES || own == 0 && !pattern.fits[group]) {
-                return 0L;
-            }
-            int from = pattern.wordOf[own];
-            if (from == 0 || word < from || word >= from + SET_WORDS) {
-                return -1L;
-            }
-            return word - from == group >> 6 ? 1L << (group & 63) : 0L;
         }
 
-        private boolean isOpen(int row) {
-            int start = row * MOST_WORDS;
-            if (row < 0 || row > LARGEST_SIDE || open[start] == 0L) {
-                return false;
-            }
-            for (int from = 1; from < pattern.words && from + SET_WORDS <= MOST_WORDS; from += SET_WORDS) {
-                long any = 0L;
-                for (int word = from; word < from + SET_WORDS; word++) {
-                    any |= open[start + word];
+        /** Leaves each hole what is wanted wherever it stands; false if more is wanted somewhere. */
+        private boolean agree(int level) {
+            for (int slot = 0; slot < 2 * pattern.rows; slot++) {
+                int hole = pick(pattern.slotHole, slot);
+                if (hole != NONE) {
+                    sets.retain(HOLE_SETS + level * HOLES + hole, WANTED_SETS + slot);
                 }
-                if (any == 0L) {
+            }
+            for (int slot = 0; slot < 2 * pattern.rows; slot++) {
+                int hole = pick(pattern.slotHole, slot);
+                if (hole != NONE && !sets.isWithin(WANTED_SETS + slot, HOLE_SETS + level * HOLES + hole)) {
                     return false;
                 }
             }
             return true;
         }
 
-        int countUpTo(int most) {
-            for (int found = 0; found < most; found++) {
-                if (!advance()) {
-                    return found;
+        /** Counts the matches at a level where each hole that stands more than once is down to one class. */
+        private long countWays(int level) {
+            long total = 0L;
+            for (int row = pattern.rows - 1; row >= 0; row--) {
+                int own = ALIVE_SETS + level * LARGEST_SIDE + row;
+                int entry = sets.next(own, 0);
+                for (int i = 0; i < NODES && entry != NONE; i++) {
+                    setWays(row, pick(frozen.groupOf, entry), 0L);
+                    entry = sets.next(own, entry + 1);
+                }
+                total = 0L;
+                entry = sets.next(own, 0);
+                for (int i = 0; i < NODES && entry != NONE; i++) {
+                    int group = pick(frozen.groupOf, entry);
+                    long more = waysAt(2 * row, pick(frozen.firstOf, entry))
+                            * waysAt(2 * row + 1, pick(frozen.secondOf, entry));
+                    setWays(row, group, waysOf(row, group) + more);
+                    total += more;
+                    entry = sets.next(own, entry + 1);
                 }
             }
-            return most;
+            return total;
         }
 
-        /** Goes to the next match; then 'nodeAt[0]' is its node, and 'holeClass' tells its holes. */
-        boolean advance() {
-            if (isOver) {
-                return false;
+        private void setWays(int row, int group, long many) {
+            int index = row * NODES + group;
+            if (group >= 0 && index >= 0 && index < ways.length) {
+                ways[index] = many;
             }
-            int last = pattern.operators - 1;
-            int row = isStarted ? last : 0;
-            boolean isFresh = !isStarted;
-            isStarted = true;
-            for (int move = 0; move < MOST_MOVES && row >= 0; move++) {
-                if (!choose(row, isFresh)) {
-                    row--;
-                    isFresh = false;
-                } else if (row == last) {
-                    return true;
-                } else {
-                    row++;
-                    isFresh = true;
-                }
-            }
-            isOver = true;
-            return false;
         }
 
-        /** Chooses the next node for an operator of the pattern. */
-        private boolean choose(int row, boolean isFresh) {
-            if (row < 0 || row >= LARGEST_SIDE) {
-                return false;
-            }
-            int at = pattern.operatorAt[row];
-            int node = candidate(row, isFresh);
-            for (int i = 0; i < NODES && node != NONE; i++) {
-                nodeAt[row] = node;
-                if (narrow(row, row + 1, at, node)) {
-                    setClass(pick(pattern.firstAt, at), pick(frozen.firstGroup, node));
-                    setClass(pick(pattern.secondAt, at), pick(frozen.secondGroup, node));
-                    return true;
-                }
-                node = candidate(row, false);
-            }
-            return false;
+        private long waysOf(int row, int group) {
+            int index = row * NODES + group;
+            return group >= 0 && index >= 0 && index < ways.length ? ways[index] : 0L;
         }
 
-        private int candidate(int row, boolean isFresh) {
-            int at = pick(pattern.operatorAt, row);
-            int kind = pick(pattern.kindAt, at);
-            if (row > 0) {
-                return isFresh ? frozen.firstOf(kind, pick(classAt, at)) : pick(frozen.following, pick(nodeAt, row));
-            }
-            int node = isFresh ? NONE : pick(frozen.following, nodeAt[0]);
-            int group = isFresh ? 0 : pick(frozen.group, nodeAt[0]) + 1;
-            for (int next = group; node == NONE && next < frozen.count; next++) {
-                node = frozen.firstOf(kind, next);
-            }
-            return node;
+        private long waysAt(int slot, int group) {
+            int row = pick(pattern.slotRow, slot);
+            return row == NONE ? 1L : waysOf(row, group);
+        }
+    }
+
+    /** Finds matches in the graph as it was when it was frozen. */
+    private static final class Matcher {
+        final Terms terms;
+        final Graph graph;
+        final Readings readings;
+        final Frozen frozen = new Frozen();
+        final Pattern pattern = new Pattern();
+        final Search search = new Search(frozen, pattern);
+        final Finds finds = search.finds;
+        final int[] holeClass = new int[HOLES];
+        int node = NONE;
+        boolean isPossible = false;
+
+        Matcher(Terms terms, Graph graph, Readings readings) {
+            this.terms = terms;
+            this.graph = graph;
+            this.readings = readings;
         }
 
-        private void setClass(int at, int group) {
-            if (at < 0 || at >= LARGEST_SIDE) {
-                return;
+        /** Keeps the graph as it is; it must have been rebuilt. */
+        void freeze() {
+            readings.readConstants();
+            frozen.take(graph, readings);
+            search.index();
+        }
+
+        /** Prepares for the matches of a left term in the frozen graph. */
+        void aim(int left, char condition) {
+            pattern.take(left, terms, graph, frozen);
+            finds.restart();
+            isPossible = search.begin(condition);
+        }
+
+        /** Counts the matches; if there are as many as 'most' or more, the answer is not below that. */
+        long countUpTo(long most) {
+            search.set(false, most);
+            return isPossible ? Search.explore(search, 0) : 0L;
+        }
+
+        /** Lists the first matches behind those that were listed, in their order, and tells if more are left. */
+        boolean gather() {
+            finds.proceed();
+            search.set(true, MOST_MATCHES);
+            if (isPossible) {
+                Search.explore(search, 0);
             }
-            classAt[at] = group;
-            int own = pattern.firstAt[at];
-            if (pattern.kindAt[at] == HOLE && own >= 0 && own < HOLES) {
-                holeClass[own] = group;
+            finds.sort();
+            return finds.isCut;
+        }
+
+        /** Chooses a match of the list; 'node' is its node then, and 'holeClass' tells its holes. */
+        void choose(int index) {
+            node = pick(frozen.nodeOf, finds.entryOf(index, 0));
+            for (int hole = 0; hole < HOLES; hole++) {
+                int slot = pattern.lastSlot[hole];
+                int entry = finds.entryOf(index, slot >> 1);
+                holeClass[hole] = pick((slot & 1) == 0 ? frozen.firstOf : frozen.secondOf, entry);
             }
         }
     }

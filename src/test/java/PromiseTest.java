@@ -706,6 +706,157 @@ public final class PromiseTest {
         due(2, x.matches(deep));
     }
 
+    /** Chains of g with the holes in front of a term, the last sign of the text innermost. */
+    private static int wrap(SaturnalGraph x, int term, String holes, boolean isFirst) {
+        int t = term;
+        for (int i = holes.length() - 1; i >= 0; i--) {
+            int h = x.hole(holes.charAt(i) - '0');
+            t = isFirst ? x.two('g', h, t) : x.two('g', t, h);
+        }
+        return t;
+    }
+
+    /** A class with very many nodes that fit a left term but for what stands at its very end. */
+    private static void lateMatches(int many, int fs, String holes, int want) {
+        promise = 29;
+        SaturnalGraph x = new SaturnalGraph();
+        int c = x.variable(0);
+        int z = x.variable(1);
+        x.put(c);
+        x.put(z);
+        int[] y = new int[many];
+        for (int j = 0; j < many; j++) {
+            y[j] = x.number(j + 1);
+            x.put(y[j]);
+        }
+        int[] pairs = new int[many + 2];
+        for (int j = 0; j < many; j++) {
+            pairs[j] = x.two('g', c, y[j]);
+        }
+        pairs[many] = x.two('g', y[many - 1], y[0]);
+        pairs[many + 1] = x.one('f', c);
+        for (int pair : pairs) {
+            x.put(pair);
+            x.join(pair, c);
+        }
+        int left = x.two('g', x.hole(0), x.hole(1));
+        for (int k = 0; k < fs; k++) {
+            left = x.one('f', left);
+        }
+        left = wrap(x, left, holes, false);
+        int rule = x.rule(left, c, '-');
+        x.setLimit(rule, 999);
+        x.rebuild();
+        due(want, x.matches(rule));
+        promise = 35;
+        due('s', x.saturate(3));
+        due(want, x.applied(rule));
+        due(1, x.rounds());
+    }
+
+    /** A graph that rules made out of few terms: the nodes f(f(..)) of a value, and their pairs in one class. */
+    private static void graphOfRules() {
+        promise = 29;
+        SaturnalGraph x = new SaturnalGraph();
+        int c = x.variable(0);
+        int pair = x.two('g', x.variable(1), c);
+        int h0 = x.hole(0);
+        int same = x.rule(x.two('g', h0, c), c, '-');
+        int more = x.rule(x.two('g', h0, c), x.two('g', x.one('f', h0), c), '-');
+        x.setLimit(same, 999);
+        x.setLimit(more, 999);
+        x.setNodes(300);
+        x.put(pair);
+        x.put(x.one('f', c));
+        x.join(x.terms() - 1, c);
+        char end = 'r';
+        for (int i = 0; i < 20 && end == 'r'; i++) {
+            end = x.saturate(20);
+        }
+        due('n', end);
+        due(300, x.nodes());
+        int values = x.matches(same);
+        due(true, values >= 147);
+        // each hole is one of the values; all of it is in the one class
+        int once = x.rule(wrap(x, c, "0123", true), c, '-');
+        int twice = x.rule(wrap(x, c, "01230123", true), c, '-');
+        int crossed = x.rule(wrap(x, x.one('f', wrap(x, c, "3210", true)), "0123", true), c, '-');
+        int mixed = x.rule(wrap(x, x.one('f', wrap(x, c, "00", true)), "0121", true), c, '-');
+        due(values * values * values * values, x.matches(once));
+        due(values * values * values * values, x.matches(twice));
+        due(values * values * values * values, x.matches(crossed));
+        due(values * values * values, x.matches(mixed));
+        promise = 34;
+        x.round();
+        due(1, x.banned(crossed));
+        due(0, x.applied(crossed));
+    }
+
+    /** The numbers 0 to 7 with their sums as g, and f of 0 alone: what is 0 behind f is what is counted. */
+    private static void tableOfSums() {
+        promise = 29;
+        SaturnalGraph x = new SaturnalGraph();
+        int[] e = new int[8];
+        for (int i = 0; i < 8; i++) {
+            e[i] = x.number(i);
+            x.put(e[i]);
+        }
+        for (int i = 0; i < 64; i++) {
+            int pair = x.two('g', e[i / 8], e[i % 8]);
+            x.put(pair);
+            x.join(pair, e[(i / 8 + i % 8) % 8]);
+        }
+        int top = x.one('f', e[0]);
+        x.put(top);
+        x.rebuild();
+        due(9, x.classes());
+        int[] h = {x.hole(0), x.hole(1), x.hole(2), x.hole(3)};
+        int sum = x.two('g', x.two('g', h[2], h[0]), x.two('g', h[3], h[1]));
+        int twice = x.two('g', x.two('g', h[0], h[1]), sum);
+        // 2 a + 2 b + c + d is 0: d is what it must be
+        int some = x.rule(x.one('f', twice), h[0], '-');
+        due(8 * 8 * 8, x.matches(some));
+        // 4 a + 4 b + 4 c + 4 d is 0: their sum is even
+        int even = x.two('g', x.two('g', h[0], h[1]), x.two('g', h[2], h[3]));
+        even = x.two('g', even, even);
+        even = x.two('g', even, even);
+        due(8 * 8 * 8 * 4, x.matches(x.rule(x.one('f', even), h[0], '-')));
+        // and never 1
+        due(0, x.matches(x.rule(x.one('f', x.two('g', even, e[1])), h[0], '-')));
+        promise = 35;
+        x.setLimit(some, 512);
+        x.round();
+        due(512, x.applied(some));
+    }
+
+    /** A limit that was doubled until it was enough for very many matches, which are all applied then. */
+    private static void doubledLimit() {
+        promise = 35;
+        SaturnalGraph x = new SaturnalGraph();
+        int many = 45;
+        int c = x.variable(0);
+        for (int i = 0; i < many; i++) {
+            int pair = x.two('g', x.number(i), c);
+            x.put(pair);
+            x.join(pair, c);
+        }
+        int rule = x.rule(wrap(x, c, "012", true), x.two('g', x.hole(2), c), '-');
+        x.setLimit(rule, 999);
+        x.rebuild();
+        due(many * many * many, x.matches(rule));
+        // banned for 1 + 2 + 4 + 8 + 16 + 32 + 64 rounds: the limit is 127872 then
+        for (int i = 0; i < 6; i++) {
+            due('r', x.saturate(20));
+        }
+        due('r', x.saturate(14));
+        due(0, x.applied(rule));
+        due(0, x.banned(rule));
+        due('s', x.saturate(20));
+        due(135, x.rounds());
+        due(many * many * many, x.applied(rule));
+        due(127872, x.setLimit(rule, 1));
+    }
+
     private static void rounds() {
         promise = 30;
         SaturnalGraph x = new SaturnalGraph();
@@ -1164,6 +1315,15 @@ public final class PromiseTest {
         matching();
         hardMatching();
         repeatedHoles();
+        lateMatches(12, 29, "0132", 12 * 12);
+        lateMatches(26, 29, "0132", 26 * 26);
+        lateMatches(26, 5, "3210", 26 * 26);
+        lateMatches(26, 29, "0011", 1);
+        lateMatches(26, 25, "012310", 26 * 26);
+        lateMatches(31, 15, "02321332023", 31 * 31);
+        graphOfRules();
+        tableOfSums();
+        doubledLimit();
         rounds();
         roundsInDetail();
         bans();
