@@ -84,7 +84,7 @@ public final class SaturnalGraph {
     private int kept = 0;
     private final int[] order = new int[TERMS];
     private final int[] places = new int[TERMS];
-    private final boolean[] chosen = new boolean[RULES];
+    private final int[] toApply = new int[RULES];
     private boolean heldBack = false;
 
     public SaturnalGraph() {
@@ -604,9 +604,7 @@ public final class SaturnalGraph {
         chooseRules();
         int joined = 0;
         for (int rule = 0; rule < rules && rule < RULES && !progress.spent; rule++) {
-            if (chosen[rule]) {
-                joined += applyRule(rule);
-            }
+            joined += toApply[rule] > 0 ? applyRule(rule) : 0;
         }
         restore();
         return joined;
@@ -614,7 +612,7 @@ public final class SaturnalGraph {
 
     private void chooseRules() {
         for (int rule = 0; rule < rules && rule < RULES; rule++) {
-            chosen[rule] = false;
+            toApply[rule] = 0;
             if (progress.bannedFor[rule] > 0) {
                 progress.bannedFor[rule]--;
                 heldBack = true;
@@ -622,11 +620,12 @@ public final class SaturnalGraph {
             }
             int limit = progress.limits[rule];
             matcher.aim(left[rule], condition[rule]);
-            if (matcher.countUpTo(limit + 1L) > limit) {
+            long found = matcher.countUpTo(limit + 1L);
+            if (found > limit) {
                 progress.ban(rule);
                 heldBack = true;
             } else {
-                chosen[rule] = true;
+                toApply[rule] = (int) found;
             }
         }
     }
@@ -634,13 +633,12 @@ public final class SaturnalGraph {
     /** Lists the matches of the rule in the graph as it was, and applies each. */
     private int applyRule(int rule) {
         int joined = 0;
-        int limit = progress.limits[rule];
         int size = terms.listParts(right[rule], order);
         matcher.aim(left[rule], condition[rule]);
         boolean isMore = true;
         // A gathering that leaves some matches for the next one has at least one.
-        for (int turn = 0; turn <= limit && isMore; turn++) {
-            isMore = matcher.gather();
+        for (int turn = 0; turn < toApply[rule] && isMore; turn++) {
+            isMore = matcher.gather(toApply[rule]);
             for (int i = 0; i < matcher.finds.count; i++) {
                 matcher.choose(i);
                 int node = placeListed(size);
@@ -2028,11 +2026,12 @@ public final class SaturnalGraph {
                 return search.countWays(level);
             }
             if (hole == NONE) {
+                long listed = 0L;
                 search.finds.rewind();
-                for (long i = 0L; i < MOST_MATCHES && search.finds.advance(level); i++) {
+                for (; listed < search.most && search.finds.advance(level); listed++) {
                     search.finds.keep();
                 }
-                return 1L;
+                return listed;
             }
             int given = pick(search.given, level);
             long known = search.memory.recall(level, given);
@@ -2266,10 +2265,13 @@ public final class SaturnalGraph {
             return isPossible ? Search.explore(search, 0) : 0L;
         }
 
-        /** Lists the first matches behind those that were listed, in their order, and tells if more are left. */
-        boolean gather() {
+        /**
+         * Lists the first matches behind those that were listed, in their order, and tells if more are left;
+         * 'all' is how many there are in all.
+         */
+        boolean gather(int all) {
             finds.proceed();
-            search.set(true, MOST_MATCHES);
+            search.set(true, all);
             if (isPossible) {
                 Search.explore(search, 0);
             }
