@@ -1617,6 +1617,21 @@ public final class SaturnalGraph {
             return NONE;
         }
 
+        /** The lowest element that three sets share, NONE if there is none. */
+        int nextOfAll(int set, int other, int third) {
+            if (set < 0 || set >= SETS || other < 0 || other >= SETS || third < 0 || third >= SETS) {
+                return NONE;
+            }
+            for (int word = 0; word < SET_WORDS; word++) {
+                long rest = words[set * SET_WORDS + word] & words[other * SET_WORDS + word]
+                        & words[third * SET_WORDS + word];
+                if (rest != 0L) {
+                    return (word << 6) + Long.bitCount((rest & -rest) - 1L);
+                }
+            }
+            return NONE;
+        }
+
         int count(int set) {
             int found = 0;
             for (int word = 0; word < SET_WORDS && set >= 0 && set < SETS; word++) {
@@ -1972,6 +1987,7 @@ public final class SaturnalGraph {
         final Finds finds;
         final Memory memory;
         final long[] ways = new long[LARGEST_SIDE * NODES];
+        final int[] partAt = new int[SLOTS];
         // The holes that are down to one class at a level; bit 0 is for the hole 0.
         final int[] given = new int[LEVELS];
         boolean isListing = false;
@@ -2025,28 +2041,38 @@ public final class SaturnalGraph {
             if (hole == NONE && !search.isListing) {
                 return search.countWays(level);
             }
+            long total = 0L;
             if (hole == NONE) {
-                long listed = 0L;
                 search.finds.rewind();
-                for (; listed < search.most && search.finds.advance(level); listed++) {
+                for (; total < search.most && search.finds.advance(level); total++) {
                     search.finds.keep();
                 }
-                return listed;
+                return total;
             }
             int given = pick(search.given, level);
-            long known = search.memory.recall(level, given);
+            boolean isLast = (pick(search.pattern.rowHoles, 0) & ~given) == 1 << hole;
+            long known = isLast ? NONE : search.memory.recall(level, given);
             if (known != NONE) {
                 return known;
             }
-            long total = 0L;
+            if (isLast) {
+                search.setParts(level);
+            }
             int group = search.sets.next(HOLE_SETS + level * HOLES + hole, 0);
             for (int i = 0; i < NODES && group != NONE && total < search.most; i++) {
-                search.give(level, hole, group);
-                total += search.settle(level + 1) ? explore(search, level + 1) : 0L;
+                if (!isLast) {
+                    search.give(level, hole, group);
+                    total += search.settle(level + 1) ? explore(search, level + 1) : 0L;
+                } else if (search.build(level, hole, group)) {
+                    total++;
+                    if (search.isListing) {
+                        search.finds.keep();
+                    }
+                }
                 group = search.sets.next(HOLE_SETS + level * HOLES + hole, group + 1);
             }
             // A list needs each match, so that only what has none can be passed over.
-            if (total == 0L || !search.isListing) {
+            if (!isLast && (total == 0L || !search.isListing)) {
                 search.memory.remember(level, given, total);
             }
             return total;
@@ -2179,6 +2205,35 @@ public final class SaturnalGraph {
                 int hole = pick(pattern.slotHole, slot);
                 if (hole != NONE && !sets.isWithin(WANTED_SETS + slot, HOLE_SETS + level * HOLES + hole)) {
                     return false;
+                }
+            }
+            return true;
+        }
+
+        /** Sets the classes of those parts that have but one at a level: leaves, and holes that are given. */
+        private void setParts(int level) {
+            for (int slot = 0; slot < 2 * pattern.rows && slot < SLOTS; slot++) {
+                int hole = pick(pattern.slotHole, slot);
+                int leaf = pick(pattern.slotGroup, slot);
+                partAt[slot] = hole == NONE ? leaf : sets.next(HOLE_SETS + level * HOLES + hole, 0);
+            }
+        }
+
+        /** Goes up from the leaves, with a class for the one hole that is not given; false if a node is missing. */
+        private boolean build(int level, int hole, int group) {
+            for (int row = Math.min(LARGEST_SIDE, pattern.rows) - 1; row >= 0; row--) {
+                int own = ALIVE_SETS + level * LARGEST_SIDE + row;
+                int first = pick(pattern.slotHole, 2 * row) == hole ? group : pick(partAt, 2 * row);
+                int second = pick(pattern.slotHole, 2 * row + 1) == hole ? group : pick(partAt, 2 * row + 1);
+                boolean isDouble = pick(pattern.rowKind, row) >= PLUS;
+                int entry = sets.nextOfAll(own, FIRST_SETS + first, isDouble ? SECOND_SETS + second : own);
+                int slot = pick(pattern.rowSlot, row);
+                if (entry == NONE) {
+                    return false;
+                }
+                finds.chosen[row] = entry;
+                if (slot >= 0 && slot < SLOTS) {
+                    partAt[slot] = pick(frozen.groupOf, entry);
                 }
             }
             return true;
