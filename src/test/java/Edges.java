@@ -195,6 +195,9 @@ final class Edges {
         try {
             return call.run() + " ";
         } catch (RuntimeException e) {
+            if (!List.of(INDEX, ARGUMENT, STATE, UNSUPPORTED, NO_SUCH, ARITHMETIC).contains(e.getClass())) {
+                complain("line " + lineOfTest() + ": " + e);
+            }
             return e.getClass().getSimpleName().substring(0, 3) + " ";
         }
     }
@@ -216,7 +219,12 @@ final class Edges {
             int node = n;
             s.append(" n").append(x.kindOf(n)).append(x.classOf(n)).append(' ').append(tell(() -> x.numberOf(node)));
             s.append(tell(() -> x.part(node, 0))).append(tell(() -> x.part(node, 1)));
+            s.append(x.nodesIn(n)).append(' ').append(tell(() -> x.constant(node))).append(x.free(n)).append(' ');
+            s.append(x.cost(n)).append(' ').append(tell(() -> x.best(node))).append(tell(() -> x.sharedCost(node)));
+            s.append(tell(() -> x.bestValue(node, 3, 5)));
         }
+        s.append(x.classes()).append(' ').append(x.clashes()).append(' ').append(tell(x::constantShare));
+        s.append(tell(x::meanNodes));
         for (int r = 0; r < 12; r++) {
             int rule = r;
             s.append(" r").append(tell(() -> x.banned(rule))).append(tell(() -> x.applied(rule)));

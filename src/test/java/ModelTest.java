@@ -61,7 +61,17 @@ public final class ModelTest {
         }
     }
 
+    /** Now and then an int far outside takes the place of another. */
+    private void makeWild(Object[] arguments) {
+        int[] far = {Integer.MIN_VALUE, Integer.MAX_VALUE, -1, 1 << 16, Integer.MIN_VALUE + 1};
+        int index = next(200);
+        if (index < arguments.length && arguments[index] instanceof Integer) {
+            arguments[index] = far[next(far.length)];
+        }
+    }
+
     private String call(String name, Object... arguments) {
+        makeWild(arguments);
         if (isGivenUp || log.size() >= 512) {
             isGivenUp = true;
             return "";

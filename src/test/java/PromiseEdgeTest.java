@@ -1139,6 +1139,20 @@ public final class PromiseEdgeTest {
             Edges.due(3, x.why(v[2], u));
             Edges.due(2, x.why(v[2], v[3]));
             Edges.due(1, x.why(v[1], v[3]));
+            // every two of a class, in whatever order it was joined
+            String[] orders = {"uv vw wx xy yz", "yz xy wx vw uv", "vu wv wx yx zy", "uv zy vw yx wx", "xw vw uv xy yz"};
+            for (String order : orders) {
+                SaturnalGraph y = new SaturnalGraph();
+                for (int i = 0; i < 6; i++) {
+                    y.put(y.variable(i));
+                }
+                for (String pair : order.split(" ")) {
+                    y.join(pair.charAt(0) - 'u', pair.charAt(1) - 'u');
+                }
+                for (int i = 0; i < 36; i++) {
+                    Edges.due(Math.abs(i / 6 - i % 6), y.why(i / 6, i % 6));
+                }
+            }
         });
         Edges.edge("congruence counts the lengths of the chains from the parts of the node from which it goes to those of "
                 + "the other one", () -> {
@@ -1209,7 +1223,6 @@ public final class PromiseEdgeTest {
                 x.join(high, right[i]);
             }
         }
-        x.join(left[0], right[0]);
         int[] ends = {left[sums[0]], right[sums[0]]};
         for (int i = 1; i < sums.length; i++) {
             ends[0] = x.two('g', ends[0], left[sums[i]]);
@@ -1217,6 +1230,8 @@ public final class PromiseEdgeTest {
         }
         x.put(ends[0]);
         x.put(ends[1]);
+        // last, since the part of a new node is the lowest node of its class
+        x.join(left[0], right[0]);
         x.rebuild();
         return ends;
     }
@@ -1241,6 +1256,12 @@ public final class PromiseEdgeTest {
             int[] back = {second, first, 100, second};
             for (int i = 0; i < 4; i++) {
                 Edges.due(back[i], x.whyAt(to, from, i));
+            }
+        });
+        Edges.edge("Returns a step of this chain", () -> {
+            // in each order of the links: a rule, a congruence of two facts, a reckoning, a congruence of a rule
+            for (int order = 0; order < 24; order++) {
+                mixedChain(order);
             }
         });
         Edges.edge("- `step`: the step, from 0, at most 999", () -> {
@@ -1303,6 +1324,50 @@ public final class PromiseEdgeTest {
         });
     }
 
+    /** A chain by links of all kinds, with the facts that lead to it told in some order. */
+    private static void mixedChain(int order) {
+        SaturnalGraph x = new SaturnalGraph();
+        int rule = Edges.rule(x, "-ab=a");
+        int product = Edges.in(x, "*15");
+        int first = Edges.in(x, "-gvvw");
+        int low = Edges.in(x, "gvv");
+        int high = Edges.in(x, "gzz");
+        int last = Edges.in(x, "fu");
+        int five = Edges.in(x, "5");
+        int v = Edges.in(x, "v");
+        int y = Edges.in(x, "y");
+        int z = Edges.in(x, "z");
+        // the links of the rule and of the reckoning, while each class has but one node
+        x.round();
+        int[][] facts = {{v, y}, {y, z}, {high, product}, {five, last}};
+        boolean[] told = new boolean[4];
+        int rest = order;
+        for (int left = 4; left > 0; left--) {
+            int skip = rest % left;
+            rest /= left;
+            for (int i = 0; i < 4; i++) {
+                if (!told[i] && skip-- == 0) {
+                    told[i] = true;
+                    boolean isBack = (order + i) % 2 == 0;
+                    x.join(facts[i][isBack ? 1 : 0], facts[i][isBack ? 0 : 1]);
+                }
+            }
+            if (left == 2) {
+                x.rebuild();
+            }
+        }
+        x.rebuild();
+        int[] due = {rule, 100, 100, 100, 100, 100, 101, 100};
+        Edges.due(due.length, x.why(first, last));
+        Edges.due(due.length, x.why(last, first));
+        for (int i = 0; i < due.length; i++) {
+            Edges.due(due[i], x.whyAt(first, last, i));
+            Edges.due(due[due.length - 1 - i], x.whyAt(last, first, i));
+        }
+        Edges.due(4, x.why(low, high));
+        Edges.refused(x, Edges.NO_SUCH, () -> x.whyAt(last, first, due.length));
+    }
+
     private static void pushes() {
         Edges.at("Promise 43: push");
         Edges.edge("Returns how many are kept.", () -> {
@@ -1326,11 +1391,16 @@ public final class PromiseEdgeTest {
             x.round();
             x.setLimit(other, 17);
             x.put(v);
+            Edges.fact(x, "w", "gw2");
+            Edges.fact(x, "x", "gx2");
+            Edges.fact(x, "w", "x");
+            x.rebuild();
+            Edges.fact(x, "gw2", "ffu");
             String before = Edges.look(x);
             Edges.due(1, x.banned(rule));
             Edges.due(1, x.applied(other));
             Edges.due(true, x.isDue());
-            Edges.due(11, x.nodes());
+            Edges.due(15, x.nodes());
             x.push();
             Edges.due(before, Edges.look(x));
             x.setLimit(rule, 3);
@@ -1340,10 +1410,12 @@ public final class PromiseEdgeTest {
             x.join(u, v);
             x.join(one, v);
             x.put(g);
+            // turns the links round
+            x.join(x.terms() - 5, one);
             x.round();
             x.setLimit(other, 1);
             Edges.due(false, before.equals(Edges.look(x)));
-            Edges.due(11, x.pop());
+            Edges.due(15, x.pop());
             Edges.due(before, Edges.look(x));
             // how often it was banned, too: one round, and then two
             x.setLimit(rule, 1);
@@ -1363,6 +1435,43 @@ public final class PromiseEdgeTest {
         });
     }
 
+    /** Links of a rule, of facts and of congruence, one end of which is joined with another term behind push(). */
+    private static void keepChains(int end) {
+        SaturnalGraph x = new SaturnalGraph();
+        Edges.rule(x, "fa=a");
+        int low = Edges.in(x, "guu");
+        int f = Edges.in(x, "fgvv");
+        int[] ends = {low, f, f - 1, Edges.in(x, "w"), Edges.in(x, "~w"), Edges.in(x, "y")};
+        x.round();
+        x.join(low - 1, f - 2);
+        x.join(ends[3], low);
+        x.join(ends[4], f);
+        x.join(ends[5], ends[3]);
+        x.rebuild();
+        int out = Edges.term(x, "z");
+        String before = tellChains(x, ends);
+        x.push();
+        x.put(out);
+        x.join(ends[end], out);
+        Edges.due(before, tellChains(x, ends));
+        x.join(out, ends[end]);
+        x.pop();
+        Edges.due(before, tellChains(x, ends));
+    }
+
+    private static String tellChains(SaturnalGraph x, int[] ends) {
+        StringBuilder s = new StringBuilder();
+        for (int from : ends) {
+            for (int to : ends) {
+                for (int i = 0; i < x.why(from, to); i++) {
+                    s.append(x.whyAt(from, to, i)).append(' ');
+                }
+                s.append('/');
+            }
+        }
+        return s.toString();
+    }
+
     private static void pops() {
         Edges.at("Promise 44: pop");
         Edges.edge("Brings back what was kept last, which is gone then", () -> {
@@ -1378,6 +1487,25 @@ public final class PromiseEdgeTest {
             Edges.due(0, x.pop());
             Edges.due(0, x.classes());
             Edges.refused(x, Edges.STATE, x::pop);
+        });
+        Edges.edge("Brings back what was kept last", () -> {
+            // what rides on classes
+            SaturnalGraph x = new SaturnalGraph();
+            int u = Edges.in(x, "u");
+            int five = Edges.term(x, "5");
+            x.push();
+            x.put(five);
+            x.join(u, five);
+            Edges.due(5, x.constant(0));
+            Edges.due(0, x.free(0));
+            x.pop();
+            Edges.refused(x, Edges.NO_SUCH, () -> x.constant(0));
+            Edges.due(1, x.free(0));
+            Edges.due(0.0f, x.constantShare());
+            // the chains, which other links turned round
+            for (int end = 0; end < 6; end++) {
+                keepChains(end);
+            }
         });
         Edges.edge("terms, rules, costs and the limit of nodes stay", () -> {
             SaturnalGraph x = withRules(1);

@@ -348,6 +348,15 @@ public final class SectionEdgeTest {
             x.round();
             Edges.due(1, x.applied(rule));
             Edges.refused(x, Edges.NO_SUCH, () -> x.areSame(same, leaf));
+            int large = Edges.rule(x, "fa=g~v+wx");
+            x.setLimit(large, 60);
+            x.round();
+            Edges.due(60, x.applied(large));
+            x.put(leaf);
+            for (int t = 1; t < 8; t++) {
+                int right = x.terms() - t;
+                Edges.refused(x, Edges.NO_SUCH, () -> x.areSame(right, right));
+            }
         });
         Edges.edge("its node is that of the last time", () -> {
             SaturnalGraph x = new SaturnalGraph();
@@ -912,6 +921,17 @@ public final class SectionEdgeTest {
                 Edges.due(many <= 20 ? 0 : 1, x.banned(r));
                 Edges.due(many <= 20 ? many : 0, x.applied(r));
             }
+            for (int many = 19; many < 22; many++) {
+                SaturnalGraph x = new SaturnalGraph();
+                int r = Edges.rule(x, "gaa=~a");
+                for (int i = 0; i < many; i++) {
+                    int n = x.number(i);
+                    x.put(x.two('g', n, n));
+                }
+                Edges.due(many <= 20 ? many : 0, x.round());
+                Edges.due(many <= 20 ? 0 : 1, x.banned(r));
+                Edges.due(many <= 20 ? many : 0, x.applied(r));
+            }
             SaturnalGraph y = new SaturnalGraph();
             int r = Edges.rule(y, "fa=~a");
             int none = Edges.rule(y, "ga0=a");
@@ -1175,6 +1195,17 @@ public final class SectionEdgeTest {
             Edges.due(31 * (7 * 10 + 3) + 17 * (7 * 10 + 3), x.bestValue(node, 10, 20));
             x.setCost('f', 2);
             Edges.due(48 * -20, x.bestValue(node, 10, 20));
+            // best nodes whose parts have higher numbers than their classes
+            for (String text : new String[] {"~v", "gvu", "guv"}) {
+                SaturnalGraph y = new SaturnalGraph();
+                y.setCost('*', 99);
+                Edges.fact(y, "*uu", text);
+                Edges.due(1, y.classOf(y.nodes() - 1));
+                int due = text.equals("~v") ? -9 : text.equals("gvu") ? 31 * 9 + 17 * 4 : 31 * 4 + 17 * 9;
+                Edges.due(due, y.bestValue(1, 4, 9));
+                Edges.due(text.length(), y.sharedCost(1));
+                Edges.due(true, y.isSound());
+            }
         });
     }
 
