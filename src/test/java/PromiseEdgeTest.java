@@ -1502,6 +1502,27 @@ public final class PromiseEdgeTest {
             Edges.refused(x, Edges.NO_SUCH, () -> x.constant(0));
             Edges.due(1, x.free(0));
             Edges.due(0.0f, x.constantShare());
+            // whether rebuilding is due, and how the last round ended, are as they were
+            SaturnalGraph y = growing();
+            y.setNodes(10);
+            y.rebuild();
+            y.push();
+            Edges.due('n', y.saturate(20));
+            Edges.in(y, "u");
+            y.setNodes(11);
+            Edges.in(y, "v");
+            Edges.due(true, y.isDue());
+            y.push();
+            y.setNodes(300);
+            y.round();
+            Edges.due(false, y.isSpent());
+            y.pop();
+            Edges.due(true, y.isDue());
+            Edges.due(true, y.isSpent());
+            y.pop();
+            Edges.due(false, y.isDue());
+            Edges.due(false, y.isSpent());
+            Edges.due(1, y.matches(0));
             // the chains, which other links turned round
             for (int end = 0; end < 6; end++) {
                 keepChains(end);
